@@ -55,12 +55,15 @@ public final class GloveSigns {
     private int theSeed;
 
     public GloveSigns() {
+        Season told = new Season();
+        Hall now = new Hall();
+        Trial tried = new Trial(told, now);
         text = new Text();
         draft = new Season();
-        theSeason = new Season();
-        hall = new Hall();
-        trial = new Trial(theSeason, hall);
-        matching = new Matching(trial);
+        theSeason = told;
+        hall = now;
+        trial = tried;
+        matching = new Matching(tried);
         past = new Past();
         firstImage = new Image();
         secondImage = new Image();
