@@ -470,6 +470,16 @@ public final class AskedEdgesTest extends Edges {
         }
         x.undo(2);
         due("20 again", x.logged(19, 3), 47);
+        x.visit(0, 0, 20);
+        x.visit(0, 0, 21);
+        for (int i = 22; i < 47; i++) {
+            x.visit(0, 0, i);
+        }
+        due("all 20 are others", x.logged(19, 3), 27);
+        x.undo(25);
+        for (int i = 0; i < 20; i++) {
+            due("all 20 again, the latest but " + i, x.logged(i, 3), 21 - i);
+        }
     }
 
     private static void loggedWhat() {

@@ -26,6 +26,7 @@ public final class DeedEdgesTest extends Edges {
         undoKeepsThirty();
         undoEachDeed();
         undoSince();
+        lastCalls();
         end();
     }
 
@@ -458,6 +459,17 @@ public final class DeedEdgesTest extends Edges {
             }
             due("seed then", x.seed(0), next);
         }
+        sentence("the DRAW of n is it / 65536, left over by n): n DAYS:");
+        // 65535 is the last that draws 0, 65536 the first that draws 1.
+        long[] leads = seedsThatLeadTo(65535, 65536, 131071, 131072, MAX, 0);
+        int[] firsts = {0, 1, 1, 2, 32767 % 6, 0};
+        for (int i = 0; i < leads.length; i++) {
+            GloveSigns w = of("s0;" + "c9 0 0;".repeat(6) + "h0 40 0;");
+            w.seed((int) leads[i]);
+            w.drift(1);
+            due("the first draw, seed " + leads[i], w.logged(1, 1), firsts[i]);
+            due("a draw of 1", w.logged(1, 2), 0);
+        }
         sentence("THE SEED (0 at first:");
         GloveSigns y = of("s0;c9 0 0;h0 40 0;");
         y.drift(1);
@@ -474,6 +486,20 @@ public final class DeedEdgesTest extends Edges {
         }
         due("six visits", z.told(10), 6);
         due("L: one more each day", z.house(0, 0), 3);
+    }
+
+    /** The step can be gone back: 1103515245 is odd, so that it has an inverse by 2 to the 31. */
+    private static long[] seedsThatLeadTo(long... nexts) {
+        long inverse = 1;
+        for (int i = 0; i < 6; i++) {
+            inverse = inverse * (2 - 1103515245L * inverse) & MAX;
+        }
+        long[] seeds = new long[nexts.length];
+        for (int i = 0; i < nexts.length; i++) {
+            seeds[i] = (nexts[i] - 12345) * inverse & MAX;
+            due("leads", (seeds[i] * 1103515245L + 12345) % 2147483648L, nexts[i]);
+        }
+        return seeds;
     }
 
     private static void nobodyToDraw() {
@@ -590,6 +616,11 @@ public final class DeedEdgesTest extends Edges {
         due("the third visit: log", x.told(10), 2);
         x.visit(0, 0, 0);
         due("the third visit again", x.comer(0, 3), 1);
+        x.undo(2);
+        x.visit(0, 0, 0);
+        due("twice, as counted ahead of what was undone", x.comer(0, 3), 0);
+        x.visit(0, 0, 0);
+        due("three times", x.comer(0, 3), 1);
         x.undo(3);
         due("open today", x.told(5), 0);
         due("log", x.logged(0, 0), NONE);
@@ -620,5 +651,19 @@ public final class DeedEdgesTest extends Edges {
         feedAll(x, "s0;");
         x.season();
         due("a text", x.undo(1), NOT);
+    }
+
+    private static void lastCalls() {
+        sentence("An object is used for at most 512 calls after it has been made;");
+        GloveSigns x = new GloveSigns();
+        feedAll(x, "s0;c9 9 0;h0 0 0;");
+        x.season();
+        // 18 calls are made by now.
+        for (int i = 19; i <= 509; i++) {
+            due("call " + i, x.drift(30), (i - 18) * 30);
+        }
+        due("call 510", x.undo(30), 14700);
+        due("call 511", x.logged(19, 0), 14690);
+        due("call 512", x.calls(0, 0), 999);
     }
 }

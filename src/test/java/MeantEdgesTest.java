@@ -60,7 +60,17 @@ public final class MeantEdgesTest extends Edges {
         x.tear();
         due("torn, the first again", x.meant(0, 0), 1);
         due("could be", x.couldBe(1), 0);
-        sentence("MEANT (6 at most): of an unknown SIGN that was SAID a part was seen");
+        sentence("MEANT (6 at most): of an unknown SIGN that was SAID a part was seen: part 0 .. 3 (bits) was so (1) or not (0),"
+            + " part 4: THUMB was v (0 .. 2).");
+        int[][] least = {{0, 1}, {0, 2}, {0, 4}, {0, 8}, {0, 16, 32}};
+        for (int part = 0; part <= 4; part++) {
+            for (int v = 0; v < least[part].length; v++) {
+                GloveSigns one = of("s0;");
+                one.meant(part, v);
+                due("the least, part " + part + ", v " + v, one.couldBe(1), least[part][v]);
+                due("how many, part " + part + ", v " + v, one.couldBe(0), part == 4 ? 16 : 24);
+            }
+        }
         GloveSigns y = of("s2;");
         for (int part = 0; part < 4; part++) {
             due("meant", y.meant(part, part == 0 ? 1 : 0), part + 1);
@@ -271,7 +281,7 @@ public final class MeantEdgesTest extends Edges {
     }
 
     private static void wrongNow() {
-        sentence("WRONG: the first that is otherwise now;");
+        sentence("`int judge()`: WRONG; NONE.");
         GloveSigns x = of("s0;c0 0 0;h0 40 0;h5 40 0;");
         x.write(0, 0);
         x.write(1, 5);
@@ -385,8 +395,18 @@ public final class MeantEdgesTest extends Edges {
         due("log", x.told(10), 3);
         due("log, the latest", x.logged(0, 3), 9);
         due("the seed", x.seed(1), 8);
+        x.keep(1);
+        x.pardon(0, 0);
+        x.visit(0, 0, 0);
         x.goBack(0);
         due("image 0 as it was kept", x.calls(0, 0), 2);
+        x.stuff(0, 4);
+        x.visit(0, 0, 0);
+        due("let in, but not so: counted as it was kept", x.comer(0, 3), 0);
+        x.stuff(0, 5);
+        x.visit(0, 0, 0);
+        due("and so: the third time", x.comer(0, 3), 1);
+        x.goBack(0);
         due("its seed as it was kept", x.seed(1), 7);
         x.day(1);
         x.keep(0);

@@ -218,6 +218,13 @@ public final class TextEdgesTest extends Edges {
         }
         GloveSigns y = of("s0;h7 7 1,2,3,4,5,6,7,8;h7 7 9;");
         due("none told behind a house with all", y.prize(1, 1), 0);
+        feedAll(y, "s0;h7 7 5,5,5,5;h7 7 5,5,5,5,x");
+        due("a text with a fault", y.season(), -11);
+        feedAll(y, "s0;h7 7 9;h7 7 9,9;");
+        due("a text that tells fewer", y.season(), 0);
+        due("none told behind a text with all", y.prize(0, 1), 0);
+        due("none told behind a text with all", y.prize(0, 7), 0);
+        due("none told behind a text with a fault", y.prize(1, 2), 0);
         sentence("a ninth P: at its ','");
         faults("s0;h7 7 1,2,3,4,5,6,7,8,9;", 1, 23);
         faults("s0;h7 7 1,2,3,4,5,6,7,8,;", 1, 23);

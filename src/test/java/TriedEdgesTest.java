@@ -223,6 +223,9 @@ public final class TriedEdgesTest extends Edges {
         z.stuff(0, 1);
         due("all let him in", z.round(0, 0), 2);
         due("of all the least", z.round(0, 1), 0);
+        GloveSigns one = of("s0;c0 0 0;h1 1 0;h3 40 0,0,1;");
+        due("one lets him in", one.round(0, 0), 1);
+        due("of 3, 9, 10 the least", one.round(0, 1), 3);
         due("all six", of("s0;c0 0 0;" + "h3 40 0,0,0,0,0,0,0,1;".repeat(6)).round(0, 0), 6);
         due("all six by 32", of("s0;c0 0 0;" + "h3 40 0,0,0,0,0,0,0,1;".repeat(6)).round(0, 1), 32);
         due("no houses", of("s0;c9 0 0;").round(0, 0), 0);
