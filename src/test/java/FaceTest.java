@@ -33,6 +33,7 @@ public final class FaceTest {
             checkNames(inner);
         }
         checkSource();
+        checkHeadings();
         if (wrong != 0) {
             System.exit(1);
         }
@@ -111,6 +112,23 @@ public final class FaceTest {
             Matcher m = Pattern.compile(forbidden).matcher(code);
             check(!m.find(), "the source has " + forbidden);
         }
+    }
+
+    /** Ahead of the calls the interface says what the document tells, and the calls stand in the document's order. */
+    private static void checkHeadings() throws Exception {
+        String want = " the season: feed season fault told comer house prize calls sign logged"
+            + " deeds: visit day mean stuff pardon drift undo"
+            + " tried: says signs gains clear letIn round suits dry"
+            + " what was meant: meant couldBe part write judge tear"
+            + " images: seed keep goBack";
+        StringBuilder got = new StringBuilder();
+        String source = Files.readString(Path.of("src/main/java/GloveSigns.java"));
+        String face = source.substring(0, source.indexOf("// ---- what several calls share"));
+        Matcher m = Pattern.compile("// ---- ([a-z ]+)\n|public int (\\w+)\\(").matcher(face);
+        while (m.find()) {
+            got.append(' ').append(m.group(2) == null ? m.group(1) + ":" : m.group(2));
+        }
+        check(got.toString().equals(want), "headings and calls:" + got);
     }
 
     private static void check(boolean holds, String what) {
